@@ -413,7 +413,11 @@ public final class PromiseTest {
         is("13: one gives none", x.agrees(0, 8, 5), false);
         is("13: the last one gives none", x.agrees(0, 9, 5), false);
         is("13: empty", x.agrees(0, 0, 5), false);
-        fails("13: set 16", INDEX, () -> x.agrees(0, 16, 1));
+        x.master(1);
+        is("13: the first one gives none", x.agrees(0, 24, 5), false);
+        is("13: the first and the last", x.agrees(0, 17, 5), true);
+        fails("13: set 32", INDEX, () -> x.agrees(0, 32, 1));
+        fails("13: set 33", INDEX, () -> x.agrees(0, 33, 5));
         fails("13: set -1", INDEX, () -> x.agrees(0, -1, 5));
         fails("13: set MIN", INDEX, () -> x.agrees(0, MIN, 5));
         fails("13: set MAX", INDEX, () -> x.agrees(0, MAX, 5));
@@ -460,6 +464,13 @@ public final class PromiseTest {
         for (int k = 0; k < want.length; k++) {
             is("14: equal quotients, then years, then numbers: " + k, x.source(1, 2, k), want[k]);
         }
+        RingMasters y = new RingMasters();
+        addPlaced(y, 50, 101, 100, 100);
+        addPlaced(y, 50, 100, 100, 100);
+        y.master(1);
+        y.master(2);
+        is("14: two of three years is more than none", y.source(1, 3, 0), 1);
+        is("14: and comes behind it", y.source(1, 3, 1), 0);
     }
 
     private static void sapwood() {
@@ -542,6 +553,9 @@ public final class PromiseTest {
         is("17: one floats", x.sameTree(0, 1), false);
         is("17: the other one floats", x.sameTree(1, 0), false);
         is("17: with itself, floating", x.sameTree(1, 1), false);
+        x.place(0, 0);
+        is("17: floating is no year before 0", x.sameTree(0, 1), false);
+        is("17: nor the other way", x.sameTree(1, 0), false);
         fails("17: b 2", INDEX, () -> x.sameTree(0, 2));
         fails("17: a 2", INDEX, () -> x.sameTree(2, 1));
         fails("17: a -1", INDEX, () -> x.sameTree(-1, 0));
