@@ -1,61 +1,5 @@
 /** One method for each promise: ordinary inputs, the edges that the document names, wrong inputs. */
-public final class PromiseTest {
-    private static final Class<?> INDEX = IndexOutOfBoundsException.class;
-    private static final Class<?> STATE = IllegalStateException.class;
-    private static final Class<?> ARGUMENT = IllegalArgumentException.class;
-    private static final int MAX = Integer.MAX_VALUE;
-    private static final int MIN = Integer.MIN_VALUE;
-
-    private static int wrong = 0;
-
-    private interface Call {
-        void make();
-    }
-
-    private static void is(String what, long got, long want) {
-        if (got != want) {
-            wrong++;
-            System.out.println(what + " answered " + got + ", due is " + want);
-        }
-    }
-
-    private static void is(String what, boolean got, boolean want) {
-        is(what, got ? 1 : 0, want ? 1 : 0);
-    }
-
-    /** The very class counts: one that the machine throws is a class below it. */
-    private static void fails(String what, Class<?> want, Call call) {
-        Class<?> got = null;
-        try {
-            call.make();
-        } catch (RuntimeException e) {
-            got = e.getClass();
-        }
-        if (got != want) {
-            wrong++;
-            System.out.println(what + " threw " + got + ", due is " + want);
-        }
-    }
-
-    private static int add(RingMasters x, int... widths) {
-        for (int w : widths) {
-            x.ring(w);
-        }
-        return x.series();
-    }
-
-    private static int addPlaced(RingMasters x, int year, int... widths) {
-        int series = add(x, widths);
-        x.place(series, year);
-        return series;
-    }
-
-    private static int[] same(int n, int w) {
-        int[] row = new int[n];
-        java.util.Arrays.fill(row, w);
-        return row;
-    }
-
+public final class PromiseTest extends Trial {
     public static void main(String[] args) {
         newObject();
         ring();
@@ -79,11 +23,7 @@ public final class PromiseTest {
         fellingEdges();
         sameTree();
         count();
-        wrongCallsChangeNothing();
-        System.out.println(wrong == 0 ? "all promises hold" : wrong + " answers are not as due");
-        if (wrong != 0) {
-            System.exit(1);
-        }
+        end("all promises hold");
     }
 
     private static void newObject() {
@@ -590,68 +530,5 @@ public final class PromiseTest {
         fails("18: what 4", INDEX, () -> x.count(4));
         fails("18: what -1", INDEX, () -> x.count(-1));
         fails("18: what MIN", INDEX, () -> x.count(MIN));
-    }
-
-    private static RingMasters filled() {
-        RingMasters x = new RingMasters();
-        addPlaced(x, 10, 1, 2, 3);
-        addPlaced(x, 11, 2, 2, 5, 1);
-        add(x, 3, 3, 4);
-        x.master(7);
-        x.sapwood(3, 8);
-        x.ring(44);
-        return x;
-    }
-
-    private static void wrongCallsChangeNothing() {
-        RingMasters x = filled();
-        fails("all: ring", ARGUMENT, () -> x.ring(0));
-        fails("all: evened", INDEX, () -> x.evened(0, 3));
-        fails("all: place", ARGUMENT, () -> x.place(0, 501));
-        fails("all: place", INDEX, () -> x.place(3, 5));
-        fails("all: master", ARGUMENT, () -> x.master(1024));
-        fails("all: about", INDEX, () -> x.about(0, 3));
-        fails("all: at", INDEX, () -> x.at(0, 9));
-        fails("all: depth", INDEX, () -> x.depth(0, 9));
-        fails("all: leftOut", INDEX, () -> x.leftOut(0, 2, 0));
-        fails("all: distance", INDEX, () -> x.distance(0, 0, 10, 2));
-        fails("all: date", ARGUMENT, () -> x.date(0, 0, 31));
-        fails("all: agrees", INDEX, () -> x.agrees(0, 2, 2));
-        fails("all: source", INDEX, () -> x.source(0, 2, -1));
-        fails("all: sapwood", ARGUMENT, () -> x.sapwood(3, -1));
-        fails("all: felling", STATE, () -> x.felling(2, 0, 1, 1));
-        fails("all: sameTree", INDEX, () -> x.sameTree(0, 3));
-        fails("all: count", INDEX, () -> x.count(4));
-        String got = seen(x);
-        String want = seen(filled());
-        if (!got.equals(want)) {
-            wrong++;
-            System.out.println("wrong calls changed " + want + " to " + got);
-        }
-    }
-
-    /** What can be seen of a filled object, some ninety calls. */
-    private static String seen(RingMasters x) {
-        StringBuilder text = new StringBuilder();
-        for (int what = 0; what < 4; what++) {
-            text.append(x.count(what)).append(' ');
-        }
-        for (int s = 0; s < x.count(1); s++) {
-            for (int k = -1; k < x.evened(s, -1); k++) {
-                text.append(x.evened(s, k)).append(' ');
-            }
-            int year = x.place(s, -1);
-            x.place(s, year);
-            text.append("in ").append(year).append(' ');
-        }
-        for (int year = x.about(0, 0); year <= x.about(0, 1); year++) {
-            text.append(x.at(0, year)).append('/').append(x.depth(0, year)).append(' ');
-        }
-        text.append(x.leftOut(0, 0, 0)).append(' ').append(x.leftOut(0, 1, 0)).append(' ');
-        text.append(x.sapwood(2, 1)).append(' ').append(x.sapwood(3, 8)).append(' ');
-        x.ring(44);
-        x.ring(88);
-        text.append(x.series()).append(' ').append(x.evened(3, 0));
-        return text.toString();
     }
 }
