@@ -287,6 +287,13 @@ public final class FellingBoundaryTest extends Trial {
             bothWays("four rings", x, false);
             is("with itself", x.sameTree(0, 0), false);
         });
+        sentence("17 'at least five years in common': evened rings of 0 are some", () -> {
+            RingMasters x = new RingMasters();
+            addPlaced(x, 0, 1, 1, 1, 1, 896);
+            addPlaced(x, 0, 1, 1, 1, 1, 897);
+            is("evened", x.evened(0, 0), 0);
+            bothWays("four of 0, one of 400", x, true);
+        });
         sentence("17: a series with itself", () -> {
             RingMasters x = new RingMasters();
             addPlaced(x, 500, even(1, 2, 3, 94, 400));
